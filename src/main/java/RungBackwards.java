@@ -263,7 +263,7 @@ public final class RungBackwards {
         if (!upTo(n, Choice.MOST_TURNS) || !upTo(what, 1)) {
             return refuse(BAD);
         }
-        return what == 0 ? Choice.playedOut(now, now.been, n, true) : Choice.firstPlayed(now, n);
+        return what == 0 ? Choice.valuePlayed(now, n) : Choice.firstPlayed(now, n);
     }
 
     public int deaf(int things, int what) {
@@ -531,7 +531,7 @@ public final class RungBackwards {
     }
 
     private static boolean isIn(int bits, int place) {
-        return bitOf(bits, place) == 1;
+        return (bits >> place & 1) == 1;
     }
 
     private static int at(int[] numbers, int place) {
@@ -1141,6 +1141,8 @@ public final class RungBackwards {
     /** Which THINGS to ring. Sets are gone through upward, so of several as good the least bits stay. */
     private static final class Choice {
         static final int MOST_TURNS = 5;
+        /** More than all WORTH together. */
+        private static final int BEYOND_VALUE = 1000;
 
         private static boolean isFewer(int bits, int found) {
             return found == NONE || Integer.bitCount(bits) < Integer.bitCount(found);
@@ -1268,35 +1270,45 @@ public final class RungBackwards {
             return found;
         }
 
-        /** VALUE at the end of so many turns more, both parishes choosing best. */
-        static int playedOut(Tower tower, int been, int turns, boolean back) {
-            int choices = back ? been : tower.everyThing() & ~been;
+        /**
+         * VALUE at the end of so many turns more, both parishes choosing best, or the bound it doesn't come inside:
+         * a way that can matter no more is left, since all ways played to their ends take long.
+         */
+        private static int playedOut(Tower tower, int been, int turns, boolean back, int low, int high) {
             if (turns <= 0) {
                 return tower.valueIf(been);
             }
+            int choices = back ? been : tower.everyThing() & ~been;
             if (choices == 0) {
-                return playedOut(tower, been, turns - 1, !back);
+                return playedOut(tower, been, turns - 1, !back, low, high);
             }
-            int found = NONE;
-            for (int i = 0; i < tower.things; i++) {
+            int least = low;
+            int most = high;
+            for (int i = 0; i < tower.things && least < most; i++) {
                 if (isIn(choices, i)) {
-                    int value = playedOut(tower, been ^ 1 << i, turns - 1, !back);
-                    if (found == NONE || (back ? value < found : value > found)) {
-                        found = value;
+                    int value = playedOut(tower, been ^ 1 << i, turns - 1, !back, least, most);
+                    if (back) {
+                        most = Math.min(most, value);
+                    } else {
+                        least = Math.max(least, value);
                     }
                 }
             }
-            return found;
+            return back ? most : least;
+        }
+
+        static int valuePlayed(Tower tower, int turns) {
+            return playedOut(tower, tower.been, turns, true, NONE, BEYOND_VALUE);
         }
 
         /** What the one that rings back rings first; NONE: no turn, or nothing to ring. */
         static int firstPlayed(Tower tower, int turns) {
             int found = NONE;
-            int least = 0;
+            int least = BEYOND_VALUE;
             for (int i = 0; i < tower.things && turns > 0; i++) {
                 if (isIn(tower.been, i)) {
-                    int value = playedOut(tower, tower.been ^ 1 << i, turns - 1, false);
-                    if (found == NONE || value < least) {
+                    int value = playedOut(tower, tower.been ^ 1 << i, turns - 1, false, NONE, least);
+                    if (value < least) {
                         found = i;
                         least = value;
                     }
