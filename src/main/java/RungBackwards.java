@@ -1058,11 +1058,13 @@ public final class RungBackwards {
 
         private int slipAs(int asKind, int ringer, int cracked) {
             int plain = slipWithin(10 + aOf(ringer));
+            int learner = slipWithin(3 * plain);
+            int old = slipWithin(plain - aOf(ringer));
             switch (asKind) {
-                case LEARNER: return slipWithin(3 * plain);
-                case CURATE: return slipWithin((slipAs(LEARNER, ringer, cracked) + 1) / 2);
-                case OLD: return slipWithin(plain - aOf(ringer));
-                case MASTER: return slipWithin(slipAs(OLD, ringer, cracked) - 5);
+                case LEARNER: return learner;
+                case CURATE: return slipWithin((learner + 1) / 2);
+                case OLD: return old;
+                case MASTER: return slipWithin(old - 5);
                 case DEAF: return isIn(cracked, bellOf(ringer)) ? 50 : plain;
                 default: return plain;
             }

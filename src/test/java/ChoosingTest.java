@@ -114,6 +114,13 @@ public final class ChoosingTest {
         RungBackwards one = Due.towerOf("thing 3 0;thing 9 0;unsaid 0");
         Due.due("it is better to ring the lesser forwards first", one.parishes(2, 0), 9);
         Due.due("first", one.parishes(2, 1), 1);
+        RungBackwards feet = Due.towerOf("thing 1 0;thing 2 0;thing 4 0;thing 8 0;hangs 2 0;hangs 3 1;unsaid 1");
+        // 0 and 2 stand, 5. If two are rung: 0 back lets 1 bring 3 with it, 10; 2 back 11; 3 back but 7.
+        int[][] turns = {{5, -1}, {0, 0}, {7, 3}, {0, 0}, {7, 3}, {0, 0}};
+        for (int n = 0; n <= 5; n++) {
+            Due.due("feet, value " + n, feet.parishes(n, 0), turns[n][0]);
+            Due.due("feet, first " + n, feet.parishes(n, 1), turns[n][1]);
+        }
         Due.due("NONE isn't refused", none.status(12), 0);
         Due.refused("n 6", Due::steeple, y -> y.parishes(6, 0), Due.BAD);
         Due.refused("n -1", Due::steeple, y -> y.parishes(-1, 0), Due.BAD);
@@ -221,6 +228,8 @@ public final class ChoosingTest {
         x.tell(2, 3);
         Due.due("bell", x.bell(0), 2);
         Due.due("how many", x.bell(1), 1);
+        x.tell(2, 127);
+        Due.due("the last bell", x.bell(0), 7);
         x.tell(2, 255);
         Due.due("all cracked", x.bell(0), 0);
         Due.due("how many", x.bell(1), 0);

@@ -168,7 +168,7 @@ public final class MakingTest {
         {"ringer 5 9", 10}, {"ringer 5 9;", 10}, {"weather 4", 8}, {"crack 8", 6}, {"mend 8", 5}, {"year 1000", 5},
         {"year 0000", 5}, {"year 999 9", 9}, {"year 9,", 6}, {"year 9\t", 6}, {"12", 0}, {"year 9; 3", 8},
         {"thing 5 0;hangs 2 1;free 3", 25}, {"year 5" + (char) 233, 6}, {"year" + (char) 0 + "5", 4},
-        {"weatherx 1", 0}, {"year - 1", 5}, {"yearyear 1", 0}, {"crack 12345678901234567890", 6}
+        {"weatherx 1", 0}, {"yearz 1", 0}, {"azure 1", 0}, {"{ear 1", 0}, {"`", 0}, {"year :", 5}, {"year /", 5}, {"year - 1", 5}, {"yearyear 1", 0}, {"crack 12345678901234567890", 6}
     };
 
     private static RungBackwards small() {

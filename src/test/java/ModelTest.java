@@ -147,6 +147,8 @@ public final class ModelTest {
                     & random.nextInt(1024) & random.nextInt(1024);
             case "well", "once":
                 return random.nextInt(1 << Math.max(1, x.status(1)));
+            case "parishes":
+                return random.nextInt(place == 0 ? 6 : 2);
             case "under":
                 return random.nextInt(300);
             case "kinds":

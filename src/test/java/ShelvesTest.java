@@ -137,6 +137,12 @@ public final class ShelvesTest {
             Due.due("element " + n[0] + " " + n[1], x.element(n[0], n[1]), 0);
         }
         Due.due("element", x.element(0, 4), 5);
+        x.row(5, 0, 40);
+        x.row(6, 0, 1);
+        x.set(6, 0, 9);
+        Due.due("behind the last of 40", x.element(5, 40), 0);
+        x.set(5, 39, 8);
+        Due.due("ahead of the first", x.element(6, -1), 0);
         for (int i = 12; i <= 16; i++) {
             Due.due("nothing is refused", x.status(i), 0);
         }
