@@ -208,14 +208,14 @@ public final class MakingTest {
         Due.due("nine", y.status(0), 9);
         Due.due("room for one", Due.read(y, "thing 0 0"), 1);
         Due.due("ten", y.status(0), 10);
-        RungBackwards z = new RungBackwards();
         StringBuilder text = new StringBuilder("year 7");
         while (text.length() < 250) {
             text.append(' ');
         }
-        Due.due("a tape of 250", Due.read(z, text.toString()), 1);
+        Due.due("a tape of 250", Due.read(new RungBackwards(), text.toString()), 1);
         text.setCharAt(249, ';');
-        Due.due("a tape of 250 that ends too early", Due.read(z, text.toString()), -270);
+        Due.due("a tape of 250 that ends too early", Due.read(new RungBackwards(), text.toString()), -270);
+        RungBackwards z = new RungBackwards();
         Due.due("a 36th that ends too early", Due.read(z, "year 1;".repeat(34) + "mend 2;free"), -20 - 249);
         Due.due("35 statements", Due.read(z, "year 1;".repeat(34) + "mend 2"), 35);
     }

@@ -48,7 +48,7 @@ public final class ModelTest {
                 if (call.getName().equals("feed") && random.nextInt(3) == 0) {
                     waiting = text(random);
                 }
-                given = arguments(call, random, x);
+                given = arguments(call, random, model);
             }
             Object want = Model.class.getMethod(call.getName(), call.getParameterTypes()).invoke(model, given);
             Object got;
@@ -122,7 +122,7 @@ public final class ModelTest {
         return text.toString();
     }
 
-    private static Object[] arguments(Method call, Random random, RungBackwards x) {
+    private static Object[] arguments(Method call, Random random, Model model) {
         Class<?>[] types = call.getParameterTypes();
         Object[] given = new Object[types.length];
         for (int i = 0; i < types.length; i++) {
@@ -131,22 +131,22 @@ public final class ModelTest {
             } else if (random.nextInt(25) == 0) {
                 given[i] = ODD[random.nextInt(ODD.length)];
             } else {
-                given[i] = usual(call.getName(), i, random, x);
+                given[i] = usual(call.getName(), i, random, model);
             }
         }
         return given;
     }
 
     /** A number that is often none too many for the place. */
-    private static int usual(String call, int place, Random random, RungBackwards x) {
+    private static int usual(String call, int place, Random random, Model model) {
         switch (call) {
             case "to", "unsay", "until", "ways":
-                return random.nextInt(1 << Math.max(1, x.status(0)));
+                return random.nextInt(1 << Math.max(1, model.status(0)));
             case "deaf":
-                return place == 1 ? random.nextInt(2) : random.nextInt(1 << Math.max(1, x.status(0)))
+                return place == 1 ? random.nextInt(2) : random.nextInt(1 << Math.max(1, model.status(0)))
                     & random.nextInt(1024) & random.nextInt(1024);
             case "well", "once":
-                return random.nextInt(1 << Math.max(1, x.status(1)));
+                return random.nextInt(1 << Math.max(1, model.status(1)));
             case "parishes":
                 return random.nextInt(place == 0 ? 6 : 2);
             case "under":
