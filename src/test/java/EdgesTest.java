@@ -4,6 +4,7 @@ import java.nio.file.Path;
 /** A test of its own for each sentence of the document: what it names as a bound, both sides of it, and what is refused. */
 public final class EdgesTest {
     public static void main(String[] args) throws Exception {
+        WholeEdges.all();
         TowerEdges.all();
         TapeEdges.all();
         RingingEdges.all();

@@ -14,19 +14,12 @@ import java.util.regex.Pattern;
 
 /** The face as the document has it, and what of LANGUAGE.md can be seen from outside and in the text. */
 public final class LanguageTest {
-    private static final String FACE = "all(int) alone(int) back() behind(int,int,int) bell(int) best(int) chain(int) "
-        + "common(int,int) copy(int,int,int,int,int) crew(int) day() deaf(int,int) depth(int) down(int) "
-        + "element(int,int):long ends(int) feed(int) free(int) give(int,int,int) hang(int,int,int) holds(int) image() "
-        + "inWeather(int) judge(int,int) kinds(int,int) ofKind(int) off(int) oldest(int) once(int) pair(int) "
-        + "parishes(int,int) pillar() putBack(int) ring(int) ringer(int,int,int) ringerOf(int,int) row(int,int,int) "
-        + "says(int,int) seed(int) set(int,int,long) show(int,int) slipped(int,int) soon(int) status(int) "
-        + "tell(int,int) thing(int,int) thingOf(int,int) to(int) tower() under(int) unsay(int) until(int) up(int) "
-        + "ways(int) weatherFor(int) well(int) whose(int) wipe() worst(int) years(int)";
     private static final String[] RULED_OUT = {"throw", "try", "catch", "synchronized", "assert", "->", "::", "import",
         "package", "static {", "while (true)", "for (;;)", "Exact(", "hashCode", "toString", "System.out", "Thread"};
 
     public static void main(String[] args) throws Exception {
         face();
+        none();
         for (Class<?> inside : RungBackwards.class.getDeclaredClasses()) {
             inside(inside);
         }
@@ -34,7 +27,7 @@ public final class LanguageTest {
         Due.end();
     }
 
-    private static void face() {
+    private static void face() throws Exception {
         Class<?> face = RungBackwards.class;
         Due.due("public and final", face.getModifiers(), Modifier.PUBLIC | Modifier.FINAL);
         Set<String> open = new TreeSet<>();
@@ -49,10 +42,9 @@ public final class LanguageTest {
             String back = m.getReturnType() == int.class ? "" : ":" + m.getReturnType().getName();
             open.add(m.getName() + "(" + types + ")" + back);
         }
-        Set<String> due = new TreeSet<>(Arrays.asList(FACE.split(" ")));
-        if (!open.equals(due)) {
-            Due.due("the face is " + open, 1, 0);
-        }
+        Due.same("the face", open.toString(), faceTold().toString());
+        Due.due("methods of the face", open.size(), 60);
+        Due.due("no class above it", face.getSuperclass() == Object.class && face.getInterfaces().length == 0 ? 1 : 0, 1);
         for (Class<?> c : allClasses()) {
             for (Method m : c.getDeclaredMethods()) {
                 boolean shared = Modifier.isPrivate(m.getModifiers()) && names.contains(m.getName());
@@ -66,6 +58,30 @@ public final class LanguageTest {
         }
         Due.due("constructors", face.getDeclaredConstructors().length, 1);
         Due.due("classes, some twelve", allClasses().length <= 12 ? 1 : 0, 1);
+    }
+
+    /** The methods of the document's public face, each with its types. */
+    private static Set<String> faceTold() throws Exception {
+        Path root = Path.of(System.getProperty("project.root", "."));
+        String doc = Files.readString(root.resolve("../shared/DOC.md"));
+        int start = doc.indexOf("```java\n", doc.indexOf("## The public face"));
+        String block = doc.substring(start, doc.indexOf("```", start + 7));
+        Set<String> told = new TreeSet<>();
+        Matcher method = Pattern.compile("(?m)^ {4}public (int|long) (\\w+)\\(([^)]*)\\);$").matcher(block);
+        while (method.find()) {
+            String types = method.group(3).replaceAll("(int|long) \\w+", "$1").replace(" ", "");
+            told.add(method.group(2) + "(" + types + ")" + (method.group(1).equals("int") ? "" : ":long"));
+        }
+        long others = block.lines().count() - told.size();
+        Due.due("lines besides methods: the class, its end, NONE, the constructor", others, 5);
+        return told;
+    }
+
+    private static void none() throws Exception {
+        Field none = RungBackwards.class.getDeclaredField("NONE");
+        Due.due("NONE is public, static, final", none.getModifiers(), Modifier.PUBLIC | Modifier.STATIC | Modifier.FINAL);
+        Due.due("NONE is an int", none.getType() == int.class ? 1 : 0, 1);
+        Due.due("NONE", RungBackwards.NONE, -1);
     }
 
     private static Class<?>[] allClasses() {

@@ -98,12 +98,12 @@ final class Edge {
 
     // ---- the sentences of the document
 
-    /** Each sentence told is there, and all there is of Terms and promises was told. */
+    /** Each sentence told is there, and all there is of What it is, Terms and promises was told. */
     static void covers(String doc) {
         for (String part : doc.split("(?m)^## ")) {
             int end = part.indexOf('\n');
             String title = end < 0 ? part : part.substring(0, end);
-            if (title.equals("Terms") || title.startsWith("Promise ")) {
+            if (title.equals("What it is") || title.equals("Terms") || title.startsWith("Promise ")) {
                 covers(title, part.substring(end).replaceAll("```(text)?", " ").replaceAll("\\s+", " "));
             }
         }
